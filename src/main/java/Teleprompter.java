@@ -407,7 +407,6 @@ public final class Teleprompter {
             words = 0;
             passages = 1;
             wordsInPassage = 0;
-            rows = 0;
         }
 
         /** Reads one byte of a text, behind the byte before it; answers the kind of its fault. */

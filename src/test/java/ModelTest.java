@@ -135,6 +135,26 @@ public final class ModelTest {
         checks.due(run + "mean()", real.mean(), model.mean());
     }
 
+    private void compareAhead(String run, Teleprompter real, Model model) {
+        for (int pace = 1; pace <= 10; pace += 3) {
+            for (int what = 0; what < 4; what++) {
+                checks.due(run + "rehearse(" + pace + ", " + what + ")", real.rehearse(pace, what),
+                    model.rehearse(pace, what));
+            }
+        }
+        for (int word = 0; word < model.told(0); word += 7) {
+            checks.due(run + "reached(" + word + ")", real.reached(word), model.reached(word));
+        }
+    }
+
+    /** Small rows and a low limit, so that much is scrolled. */
+    private void narrow(String run, Teleprompter real, Model model) {
+        int[][] settings = {{0, between(1, 3)}, {1, between(1, 2)}, {7, between(1, 100)}, {8, below(3)}, {5, between(1, 4)}};
+        for (int[] one : settings) {
+            checks.due(run + "set(" + one[0] + ", " + one[1] + ")", real.set(one[0], one[1]), model.set(one[0], one[1]));
+        }
+    }
+
     private void compareScript(String run, Teleprompter real, Model model) {
         for (int word = -1; word <= model.told(0); word++) {
             for (int what = -1; what <= 5; what++) {
@@ -166,8 +186,14 @@ public final class ModelTest {
             }
             checks.due(name + "load " + text, real.load(), model.load());
             compareScript(name + "as loaded, ", real, model);
+            if (below(2) == 0) {
+                narrow(name, real, model);
+            }
             for (int i = 0; i < 120; i++) {
                 calls++;
+                if (i % 30 == 29) {
+                    compareAhead(name + "ahead of call " + calls + ", ", real, model);
+                }
                 call(name + "call " + calls + ": ", real, model);
                 compareAll(name + "behind call " + calls + ", ", real, model);
             }

@@ -684,6 +684,11 @@ public final class PromisesTest {
         u.place(0);
         due("500 ticks", u.reached(10), 500);
         due("550 ticks", u.reached(11), NONE);
+        u.set(8, 9);
+        u.tick(40);
+        due("550 ticks less 9 and 40", u.reached(11), NONE);
+        u.tick(1);
+        due("one less", u.reached(11), 500);
     }
 
     private static void promise23Rehearse() {
@@ -738,8 +743,25 @@ public final class PromisesTest {
         due("all the same at the end", s.rehearse(1, 3), 8);
 
         Teleprompter c = loaded("a/b/c/d/");
-        due("cues are released ahead of the next word", c.rehearse(1, 3), 4);
+        due("past all cues", c.rehearse(1, 3), 4);
+        c.set(0, 1);
+        c.set(1, 1);
+        c.set(7, 1);
+        c.set(8, 0);
+        // The estimate would be a word farther by the third tick, but the next cue holds it.
+        due("cues are released ahead of the next word", c.rehearse(1, 0), 3);
         due("in the copy only", c.told(16), 0);
+        Checks.rewrite(c, "bca/dxaef");
+        c.load();
+        c.hear('b');
+        c.tick(1);
+        c.hear('c');
+        c.place(2);
+        c.hear('x');
+        c.set(5, 3);
+        // The estimates are 2, held by the cue, then 4, 5, 6, 7 and 7: a and d are missed, x is a skip.
+        due("a cue behind a missed word is released, too", c.rehearse(1, 0), 5);
+        due("both misses", c.rehearse(1, 2), 2);
     }
 
     private static void promise24Keep() {
