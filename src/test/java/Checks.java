@@ -1,5 +1,9 @@
-/** Counts and prints the answers that are not as due. */
-final class Checks {
+import java.util.List;
+
+/** Counts and prints the answers that are not as due. A test may use it or be one. */
+class Checks {
+    static final int BAD = -1, STATE = -2, FULL = -3, NONE = -9;
+
     private int right;
     private int wrong;
 
@@ -14,6 +18,28 @@ final class Checks {
 
     void due(String call, boolean holds) {
         due(call, holds ? 1 : 0, 1);
+    }
+
+    /** Checks a run of numbers that told() tells, from one of them on. */
+    void told(String when, Teleprompter t, int from, int... want) {
+        for (int i = 0; i < want.length; i++) {
+            due(when + ": told(" + (from + i) + ")", t.told(from + i), want[i]);
+        }
+    }
+
+    /** Compares two views; of those that differ, it prints the first line that does. */
+    void same(String what, List<String> got, List<String> want) {
+        if (got.equals(want)) {
+            right++;
+            return;
+        }
+        wrong++;
+        int line = 0;
+        while (line < got.size() && line < want.size() && got.get(line).equals(want.get(line))) {
+            line++;
+        }
+        System.out.println(what + ": " + (line < got.size() ? got.get(line) : "nothing more") + ", due is: "
+            + (line < want.size() ? want.get(line) : "nothing more"));
     }
 
     /** A new object that has read a text. */

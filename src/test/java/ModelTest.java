@@ -1,4 +1,7 @@
-/** Long runs of calls, chosen by a counter of its own, each answered by the model, too. */
+/**
+ * Long runs of calls, chosen by a counter of its own, each answered by the model, too. An object is asked more
+ * here than the 512 calls that the document speaks of, as this program answers alike however many there are.
+ */
 public final class ModelTest {
     private static final String[] CALLS = {"load", "set", "hear", "tick", "release", "place", "undo", "write", "wipe",
         "fault", "told", "setting", "word", "row", "heard", "trail", "score", "best", "unique", "reached", "rehearse",
