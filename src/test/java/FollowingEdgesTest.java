@@ -80,6 +80,9 @@ public final class FollowingEdgesTest extends Checks {
         windowIs(window(LETTERS, 8, 15, 9), LETTERS, 1, 24);
         windowIs(window(LETTERS, 0, 1, 5), LETTERS, 5, 6);
         windowIs(window(LETTERS, 1, 1, 5), LETTERS, 4, 6);
+        windowIs(window(LETTERS, 1, 1, 0), LETTERS, 0, 1);
+        windowIs(window(LETTERS, 1, 2, 0), LETTERS, 0, 2);
+        windowIs(window(LETTERS, 1, 2, 1), LETTERS, 0, 3);
         String wide = "xy" + "a".repeat(29) + "b" + "c".repeat(59) + "de";
         windowIs(window(wide, 30, 60, 31), wide, 1, 91);
         Teleprompter t = window(wide, 30, 60, 30);
@@ -139,6 +142,19 @@ public final class FollowingEdgesTest extends Checks {
         due("the third word has two", scoreBehind("bab", 2), 3);
         due("the fourth word has three", scoreBehind("zabc", 3), 4);
         due("the last word", scoreBehind("def", 6), 4);
+    }
+
+    // The same over the ends of passages and behind cues, of which the document says nothing
+    private void passagesAndCuesDoNotCount() {
+        Teleprompter t = loaded("ab/|c|d/efg");
+        hearAll(t, "abc");
+        due("d behind c, b and a", t.score(3), 4);
+        hearAll(t, "d");
+        due("e behind d, c and b", t.score(4), 4);
+        t.set(3, 4);
+        due("a is 4 back, two passages before", t.best('a', 0), 0);
+        t.place(0);
+        due("g is 6 ahead, two passages behind", t.best('g', 0), 6);
     }
 
     // Promise 18: "wherever it is"
@@ -458,6 +474,23 @@ public final class FollowingEdgesTest extends Checks {
         due("words without a cue get none", t.word(0, 3) * 100 + t.word(1, 3) * 10 + t.word(2, 3), 30);
     }
 
+    // Promise 7: "(without being counted)": waiting ones that a skip would count
+    private void placeCountsNothing() {
+        Teleprompter t = loaded("a/b/c/d/");
+        t.place(3);
+        due("three are passed", t.word(0, 3) * 100 + t.word(1, 3) * 10 + t.word(2, 3), 333);
+        told("none is overrun", t, 14, 0);
+        told("it is no skip", t, 10, 0);
+        t.place(1);
+        told("it is no repeat", t, 11, 0);
+        told("nor a miss", t, 12, 0);
+        t.place(2);
+        told("none is overrun by a second place", t, 14, 0);
+        t.set(5, 1);
+        t.hear('d');
+        told("what waits again can be overrun again", t, 14, 1);
+    }
+
     // Promise 7: "BAD if there is no such word", and what is forgotten and what stays
     private void placesFrom0ToN() {
         Teleprompter t = loaded("abcd");
@@ -525,6 +558,7 @@ public final class FollowingEdgesTest extends Checks {
         test.windowFromBackToAhead();
         test.windowWithinTheScript();
         test.scoresFrom1To4();
+        test.passagesAndCuesDoNotCount();
         test.scoreOutOfTheWindow();
         test.bestOfSeveral();
         test.acceptedByTheNeed();
@@ -541,6 +575,7 @@ public final class FollowingEdgesTest extends Checks {
         test.overruns();
         test.nextCueAndNone();
         test.cuesAroundAPlace();
+        test.placeCountsNothing();
         test.placesFrom0ToN();
         test.missChangesNothingElse();
         test.numbersTold();

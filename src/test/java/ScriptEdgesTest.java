@@ -245,6 +245,12 @@ public final class ScriptEdgesTest extends Checks {
         due("three stand twice, four once", t.unique(3), 4);
         due("three before the end", t.unique(2), NONE);
         due("over the end of a passage", loaded("ab|ab").unique(3), 3);
+        t = loaded("ab|cab|c");
+        due("b c and a b c stand twice over the ends of passages", t.unique(5), 4);
+        t = loaded("abcxab|c");
+        due("a b c stands once over the end of a passage", t.unique(6), 4);
+        due("and once within one", t.unique(2), NONE);
+        due("cues do not count", loaded("a/bab/").unique(3), 3);
     }
 
     // Promise 21: "n divided by R, both converted to float"

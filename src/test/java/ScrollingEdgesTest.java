@@ -372,6 +372,8 @@ public final class ScrollingEdgesTest extends Checks {
         t.place(3);
         due("one word left: its row comes by a jerk", t.rehearse(1, 0), 1);
         due("nothing else", t.rehearse(1, 1) + t.rehearse(1, 2), 0);
+        t.tick(1);
+        due("its row is shown already", t.rehearse(1, 0), 0);
         due("the position then", t.rehearse(1, 3), 4);
         due("the only word", new Teleprompter().rehearse(10, 3), 1);
         t = loaded("a".repeat(120));
@@ -405,6 +407,35 @@ public final class ScrollingEdgesTest extends Checks {
         due("to the end", t.rehearse(10, 3), 6);
         told("in a copy", t, 16, 2);
         due("a cue behind the last word", loaded("a/b/").rehearse(1, 3), 2);
+    }
+
+    // Promise 23: "and the next cue stands behind it": no cue is released ahead of its word
+    private void rehearseReleasesNoCueAhead() {
+        Teleprompter t = oneRow("abcde/fg");
+        t.hear('a');
+        t.tick(1);
+        t.hear('b');
+        told("a word a tick", t, 6, 100);
+        due("rows 3 and 4, held there, and 6", t.rehearse(1, 0), 3);
+        t.release();
+        due("rows 3 to 6", t.rehearse(1, 0), 4);
+    }
+
+    // The same: a cue behind the word, while one before it waits, is not the next one
+    private void rehearseReleasesTheNextCueOnly() {
+        Teleprompter t = oneRow("ab/x/mxcxd");
+        t.set(5, 4);
+        t.set(4, 2);
+        t.hear('a');
+        t.tick(1);
+        t.hear('b');
+        due("m is missed, so the first x will be: the second one is behind m", t.hear('m'), NONE);
+        // x, m and x are below the need, c is too far; then the last x is taken for the first one, whose cue still
+        // waits and holds the text in row 2; d is too far.
+        due("x, m, x, c and d are missed", t.rehearse(10, 2), 5);
+        due("neither skip nor repeat", t.rehearse(10, 1), 0);
+        due("the position then", t.rehearse(10, 3), 3);
+        due("row 2 comes by a jerk, no further one", t.rehearse(10, 0), 1);
     }
 
     // "everything happens in a copy"
@@ -456,6 +487,8 @@ public final class ScrollingEdgesTest extends Checks {
         test.rehearseFromThePosition();
         test.rehearseCountsItsOwn();
         test.rehearseReleases();
+        test.rehearseReleasesNoCueAhead();
+        test.rehearseReleasesTheNextCueOnly();
         test.onlyInACopy();
         test.end();
     }
