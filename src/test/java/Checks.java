@@ -1,4 +1,6 @@
 import java.util.List;
+import java.util.function.Consumer;
+import java.util.function.Supplier;
 
 /** Counts and prints the answers that are not as due. A test may use it or be one. */
 class Checks {
@@ -61,6 +63,15 @@ class Checks {
         for (int i = 0; i < words.length(); i++) {
             teleprompter.hear(words.charAt(i));
         }
+    }
+
+    /** A run of calls with a further step behind it. */
+    static Supplier<Teleprompter> then(Supplier<Teleprompter> run, Consumer<Teleprompter> step) {
+        return () -> {
+            Teleprompter t = run.get();
+            step.accept(t);
+            return t;
+        };
     }
 
     void end() {

@@ -5,14 +5,6 @@ import java.util.function.Supplier;
 public final class HistoryEdgesTest extends Checks {
     private static final int UNDO = 18;
 
-    private static Supplier<Teleprompter> then(Supplier<Teleprompter> run, Consumer<Teleprompter> step) {
-        return () -> {
-            Teleprompter t = run.get();
-            step.accept(t);
-            return t;
-        };
-    }
-
     private static Supplier<Teleprompter> started() {
         return () -> {
             Teleprompter t = new Teleprompter();

@@ -1,7 +1,3 @@
-import java.lang.reflect.Modifier;
-import java.util.Arrays;
-import java.util.TreeSet;
-
 /** A test for each promise of the document: ordinary inputs, the edges that it names, and wrong inputs. */
 public final class PromisesTest {
     private static final int BAD = -1, STATE = -2, FULL = -3, NONE = -9;
@@ -34,26 +30,6 @@ public final class PromisesTest {
         due("place of fault in " + text, t.fault(1), place);
         told("a text with a fault is not read", t, 0, 1, 1, 1, 0);
         due("a load with STATE is not recorded", t.told(18), 0);
-    }
-
-    private static void face() {
-        due("BAD", Teleprompter.BAD, BAD);
-        due("STATE", Teleprompter.STATE, STATE);
-        due("FULL", Teleprompter.FULL, FULL);
-        due("NONE", Teleprompter.NONE, NONE);
-        TreeSet<String> names = new TreeSet<>();
-        for (var method : Teleprompter.class.getDeclaredMethods()) {
-            boolean open = Modifier.isPublic(method.getModifiers());
-            checks.due(method + " is public or private", open || Modifier.isPrivate(method.getModifiers()));
-            if (open) {
-                names.add(method.getName());
-            }
-        }
-        checks.due("public methods are " + names, names.equals(new TreeSet<>(Arrays.asList("load", "set", "hear", "tick",
-            "release", "place", "undo", "write", "wipe", "fault", "told", "setting", "word", "row", "heard", "trail",
-            "score", "best", "unique", "mean", "reached", "rehearse", "keep", "back"))));
-        due("public constructors", Teleprompter.class.getConstructors().length, 1);
-        due("public constants", Teleprompter.class.getFields().length, 4);
     }
 
     private static void promise1NewObject() {
@@ -818,6 +794,24 @@ public final class PromisesTest {
         due("other image", t.back(1), STATE);
     }
 
+    // The example in README.md
+    private static void readme() {
+        Teleprompter t = new Teleprompter();
+        Checks.rewrite(t, "abcde/fg|hij");
+        due("load", t.load(), 10);
+        due("set", t.set(0, 4), 5);
+        due("hear a", t.hear('a'), 1);
+        due("tick", t.tick(3), 0);
+        due("hear b", t.hear('b'), 2);
+        due("speed", t.told(6), 33);
+        due("estimated word", t.told(7), 2);
+        due("release", t.release(), 4);
+        due("undo", t.undo(), 5);
+        due("the cue waits again", t.word(4, 3), 1);
+        due("reached", t.reached(9), NONE);
+        due("rehearse", t.rehearse(2, 2), 0);
+    }
+
     private static void wildArguments() {
         int[] wild = {Integer.MIN_VALUE, -100, 200, Integer.MAX_VALUE};
         Teleprompter t = loaded("ab/c|d");
@@ -833,7 +827,6 @@ public final class PromisesTest {
     }
 
     public static void main(String[] args) {
-        face();
         promise1NewObject();
         promise2Load();
         promise3Set();
@@ -861,6 +854,7 @@ public final class PromisesTest {
         promise23Rehearse();
         promise24Keep();
         promise25Back();
+        readme();
         wildArguments();
         checks.end();
     }

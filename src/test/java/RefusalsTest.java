@@ -1,42 +1,11 @@
-import java.util.ArrayList;
-import java.util.List;
 import java.util.function.Supplier;
-import java.util.function.ToIntFunction;
 
 /**
  * "A call that returns one of them changes nothing, except the latest fault": every method, refused in
  * several situations; behind it, everything that can be seen is as it was. So it is behind the methods
  * that only tell something, also where they return NONE.
  */
-public final class RefusalsTest extends Checks {
-    private final List<String> names = new ArrayList<>();
-    private final List<ToIntFunction<Teleprompter>> calls = new ArrayList<>();
-    private final List<Integer> answers = new ArrayList<>();
-
-    private void add(String name, int answer, ToIntFunction<Teleprompter> call) {
-        names.add(name);
-        calls.add(call);
-        answers.add(answer);
-    }
-
-    /** Does each call that was added on an object of its own, and empties their list. */
-    private void changeNothing(String when, Supplier<Teleprompter> run) {
-        List<String> before = View.all(run);
-        for (int i = 0; i < names.size(); i++) {
-            ToIntFunction<Teleprompter> call = calls.get(i);
-            String name = when + ": " + names.get(i);
-            due(name, call.applyAsInt(run.get()), answers.get(i));
-            same(name + " has changed something", View.all(() -> {
-                Teleprompter t = run.get();
-                call.applyAsInt(t);
-                return t;
-            }), before);
-        }
-        names.clear();
-        calls.clear();
-        answers.clear();
-    }
-
+public final class RefusalsTest extends UnchangedChecks {
     /** The calls with an argument that is the last one too small or the first one too great. */
     private void addOutOfRange(int words, int rows) {
         int[] least = {1, 1, 0, 0, 1, 1, 1, 1, 0};
@@ -142,6 +111,11 @@ public final class RefusalsTest extends Checks {
         changeNothing("busy", run);
     }
 
+    private void midwayObject() {
+        addOutOfRange(40, 20);
+        changeNothing("midway", UnchangedChecks::midway);
+    }
+
     /** Nothing waits any more, the text is wrong, and what can be undone is undone. */
     private static Teleprompter atTheEnd() {
         Teleprompter t = new Teleprompter();
@@ -205,25 +179,19 @@ public final class RefusalsTest extends Checks {
         String[] texts = {"ab!", "a /", "a||b", "a".repeat(121), "ab|", ""};
         int[][] faults = {{1, 2}, {2, 2}, {3, 2}, {4, 120}, {5, 3}, {5, 0}};
         for (int i = 0; i < texts.length; i++) {
-            String text = texts[i];
-            int[] fault = faults[i];
-            Supplier<Teleprompter> run = () -> {
-                Teleprompter t = busy();
-                rewrite(t, text);
-                return t;
-            };
-            due("load of " + text, run.get().load(), STATE);
-            same("load of " + text + " has changed something", View.allButFault(() -> {
-                Teleprompter t = run.get();
-                t.load();
-                return t;
-            }), View.allButFault(run));
-            Teleprompter t = run.get();
-            due("kind before", t.fault(0), 5);
-            due("place before", t.fault(1), 5);
-            t.load();
-            due("kind", t.fault(0), fault[0]);
-            due("place", t.fault(1), fault[1]);
+            loadFinds(texts[i], faults[i], RefusalsTest::busy, new int[] {5, 5});
+            loadFinds(texts[i], faults[i], UnchangedChecks::midway, new int[] {2, 3});
+        }
+    }
+
+    private void loadFinds(String text, int[] fault, Supplier<Teleprompter> situation, int[] faultBefore) {
+        Supplier<Teleprompter> before = then(situation, t -> rewrite(t, text));
+        Supplier<Teleprompter> behind = then(before, t -> t.load());
+        due("load of " + text, before.get().load(), STATE);
+        same("load of " + text + " has changed something", View.allButFault(behind), View.allButFault(before));
+        for (int what = 0; what < 2; what++) {
+            due("fault(" + what + ") before " + text, before.get().fault(what), faultBefore[what]);
+            due("fault(" + what + ") behind " + text, behind.get().fault(what), fault[what]);
         }
     }
 
@@ -257,6 +225,7 @@ public final class RefusalsTest extends Checks {
         RefusalsTest test = new RefusalsTest();
         test.newObject();
         test.busyObject();
+        test.midwayObject();
         test.endOfTheScript();
         test.undoneToTheStart();
         test.fullScript();

@@ -1,5 +1,7 @@
 import java.util.ArrayList;
+import java.util.LinkedHashMap;
 import java.util.List;
+import java.util.Map;
 import java.util.function.Supplier;
 import java.util.function.UnaryOperator;
 
@@ -16,6 +18,30 @@ final class View {
     /** A number that is asked for with one argument. */
     private interface Question {
         int ask(Teleprompter teleprompter, int argument);
+    }
+
+    /** The numbers of the present state by their names, but for the rows and what is worked out ahead. */
+    static Map<String, Integer> facts(Teleprompter t) {
+        Map<String, Integer> facts = new LinkedHashMap<>();
+        for (int what = 0; what <= UNDO; what++) {
+            facts.put("told(" + what + ")", t.told(what));
+        }
+        for (int setting = 0; setting < 9; setting++) {
+            facts.put("setting(" + setting + ")", t.setting(setting));
+        }
+        for (int k = 0; k < 4; k++) {
+            facts.put("heard(" + k + ")", t.heard(k));
+        }
+        for (int k = 0; k < t.told(15); k++) {
+            facts.put("trail(" + k + ", 0)", t.trail(k, 0));
+            facts.put("trail(" + k + ", 1)", t.trail(k, 1));
+        }
+        for (int word = 0; word < t.told(0); word++) {
+            facts.put("letter(" + word + ")", t.word(word, 0));
+            facts.put("passage(" + word + ")", t.word(word, 2));
+            facts.put("cue(" + word + ")", t.word(word, 3));
+        }
+        return facts;
     }
 
     /** The present state alone. */
