@@ -18,6 +18,30 @@ public final class FollowingEdgesTest extends Checks {
         due("it was the last one", one.hear('a'), NONE);
     }
 
+    // "and n at the end": nothing stops there; time passes, words are missed or repeated, cues can be released
+    private void atTheEnd() {
+        Teleprompter t = loaded("abc/");
+        t.set(0, 1);
+        t.set(1, 1);
+        t.hear('a');
+        t.tick(2);
+        hearAll(t, "bc");
+        told("at the end", t, 4, 2, 3, 100, 2, 100, 200);
+        due("a tick", t.tick(1), 1);
+        told("the last word is shown", t, 4, 3, 3, 100, 2, 200, 200);
+        due("a hundred ticks", t.tick(100), 0);
+        told("the time goes on", t, 4, 103, 3, 100, 2, 200, 200);
+        due("the cue of the last word", t.release(), 2);
+        due("a miss", t.hear('z'), NONE);
+        told("counted", t, 12, 1);
+        due("keep", t.keep(0), 3);
+        t.set(5, 1);
+        due("a repeat", t.hear('c'), 3);
+        told("counted", t, 11, 1);
+        due("place", t.place(2), 3);
+        due("back", t.back(0), 3);
+    }
+
     // Promise 4: "'a' to 'z'"; promise 19 the same
     private void lettersFromAToZ() {
         Teleprompter t = loaded("az");
@@ -340,6 +364,14 @@ public final class FollowingEdgesTest extends Checks {
         due("its position", t.trail(60, 1), 62);
         t.hear('a' + 62 % 26);
         told("another word at this time", t, 15, 61);
+        t.set(5, 1);
+        t.set(4, 5);
+        due("a skip", t.hear('a' + 64 % 26), 65);
+        told("a skip takes all pairs but its own", t, 15, 1);
+        due("its time", t.trail(0, 0), 61);
+        t.undo();
+        told("undone", t, 15, 61);
+        due("the latest position", t.trail(60, 1), 63);
         t.set(6, 1);
         told("a lesser memory cuts nothing yet", t, 15, 61);
         t.hear('a' + 63 % 26);
@@ -431,6 +463,7 @@ public final class FollowingEdgesTest extends Checks {
         told("none waits before a repeat", t, 14, 2);
         t.hear('e');
         told("the passed ones are not counted again", t, 14, 3);
+        told("passed ones are cues, too", t, 3, 5);
         told("the last cue waits at the end", t, 16, 4);
         due("so", t.word(4, 3), 1);
     }
@@ -553,6 +586,7 @@ public final class FollowingEdgesTest extends Checks {
     public static void main(String[] args) {
         FollowingEdgesTest test = new FollowingEdgesTest();
         test.positionFrom0ToN();
+        test.atTheEnd();
         test.lettersFromAToZ();
         test.keeps4Words();
         test.windowFromBackToAhead();

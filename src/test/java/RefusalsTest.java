@@ -114,6 +114,8 @@ public final class RefusalsTest extends UnchangedChecks {
     private void midwayObject() {
         addOutOfRange(40, 20);
         changeNothing("midway", UnchangedChecks::midway);
+        addOutOfRange(40, 20);
+        changeNothing("midway without a fault", UnchangedChecks::midwayWithoutFault);
     }
 
     /** Nothing waits any more, the text is wrong, and what can be undone is undone. */
@@ -143,6 +145,18 @@ public final class RefusalsTest extends UnchangedChecks {
         add("reached", 0, t -> t.reached(1));
         add("rehearse", 2, t -> t.rehearse(10, 3));
         changeNothing("at the end", RefusalsTest::atTheEnd);
+    }
+
+    private void nothingToUndo() {
+        add("undo of none", STATE, t -> t.undo());
+        changeNothing("midway, 8 changes undone", then(UnchangedChecks::midway, t -> {
+            for (int i = 0; i < 8; i++) {
+                t.tick(1);
+            }
+            for (int i = 0; i < 8; i++) {
+                t.undo();
+            }
+        }));
     }
 
     private void undoneToTheStart() {
@@ -227,6 +241,7 @@ public final class RefusalsTest extends UnchangedChecks {
         test.busyObject();
         test.midwayObject();
         test.endOfTheScript();
+        test.nothingToUndo();
         test.undoneToTheStart();
         test.fullScript();
         test.loadOfAFault();

@@ -67,7 +67,7 @@ public final class StaysTest extends UnchangedChecks {
         told("its time", t, 4, 6);
     }
 
-    private void addTelling() {
+    private void addTelling(int faultKind, int faultPlace) {
         for (int what = 0; what <= 18; what++) {
             int w = what;
             add("told " + w, midway().told(w), t -> t.told(w));
@@ -91,8 +91,8 @@ public final class StaysTest extends UnchangedChecks {
         add("trail, 0", 6, t -> t.trail(3, 0));
         add("trail, 1", 9, t -> t.trail(0, 1));
         add("trail behind the last pair", NONE, t -> t.trail(4, 0));
-        add("fault, 0", 2, t -> t.fault(0));
-        add("fault, 1", 3, t -> t.fault(1));
+        add("fault, 0", faultKind, t -> t.fault(0));
+        add("fault, 1", faultPlace, t -> t.fault(1));
     }
 
     private void addWorkedOut() {
@@ -117,9 +117,12 @@ public final class StaysTest extends UnchangedChecks {
 
     // A method that is no change, and neither writes nor keeps, changes nothing.
     private void tellingMidway() {
-        addTelling();
+        addTelling(2, 3);
         addWorkedOut();
         changeNothing("midway", MIDWAY);
+        addTelling(NONE, NONE);
+        addWorkedOut();
+        changeNothing("midway without a fault", UnchangedChecks::midwayWithoutFault);
         add("best of z, out of the window", NONE, t -> t.best('z', 0));
         add("its score", NONE, t -> t.best('z', 1));
         changeNothing("with a short window", then(MIDWAY, t -> t.set(4, 1)));
@@ -238,11 +241,11 @@ public final class StaysTest extends UnchangedChecks {
     private void loadLeaves() {
         Supplier<Teleprompter> atFirst = () -> {
             Teleprompter t = new Teleprompter();
+            rewrite(t, "pq/r|st u");
+            t.load();
             for (int s = 0; s < 9; s++) {
                 t.set(s, midway().setting(s));
             }
-            rewrite(t, "pq/r|st u");
-            t.load();
             return t;
         };
         Supplier<Teleprompter> loaded = then(MIDWAY, t -> t.load());

@@ -35,13 +35,22 @@ class UnchangedChecks extends Checks {
 
     /**
      * A reader midway in a script of 40 words: every setting has neither its first nor its least value, every
-     * counter has counted, there are cues of all kinds, the text is no longer the script's, a fault was found,
-     * both images keep other states, and 4 changes can be undone.
+     * counter has counted, there are cues of all kinds, the text is no longer the script's, both images keep
+     * other states, and 4 changes can be undone.
      */
+    static Teleprompter midwayWithoutFault() {
+        return midwayOf(new Teleprompter());
+    }
+
+    /** The same; and a fault was found before it all. */
     static Teleprompter midway() {
         Teleprompter t = new Teleprompter();
         rewrite(t, "ab /");
         t.load();
+        return midwayOf(t);
+    }
+
+    private static Teleprompter midwayOf(Teleprompter t) {
         rewrite(t, "abcd/efgh/ij|klmnopqrstuvwxyz|abcdefghij/kl/mn");
         t.load();
         int[] values = {2, 4, 2, 9, 16, 1, 30, 30, 3};

@@ -101,11 +101,14 @@ final class View {
         seen.add(name + " is " + answer);
     }
 
-    private void addEach(String name, Supplier<Teleprompter> run, int from, int to, Question question) {
+    /** Asks with each argument in the range, and then with those directly beside it. */
+    private void addEach(String name, Supplier<Teleprompter> run, int least, int most, Question question) {
         Teleprompter teleprompter = run.get();
-        for (int i = from; i <= to; i++) {
+        for (int i = least; i <= most; i++) {
             add(name + " of " + i, question.ask(teleprompter, i));
         }
+        add(name + " of " + (least - 1), question.ask(teleprompter, least - 1));
+        add(name + " of " + (most + 1), question.ask(teleprompter, most + 1));
     }
 
     private void addText(Supplier<Teleprompter> run) {
@@ -126,20 +129,21 @@ final class View {
     private void addState(String when, Supplier<Teleprompter> run) {
         int words = run.get().told(0);
         int rows = run.get().told(1);
-        addEach(when + ": told", run, -1, UNDO - 1, Teleprompter::told);
-        addEach(when + ": setting", run, -1, 9, Teleprompter::setting);
-        addEach(when + ": heard", run, -1, 5, Teleprompter::heard);
+        // How many changes can be undone is no part of the state: behind the others, it is asked as a wrong number.
+        addEach(when + ": told", run, 0, UNDO - 1, (t, what) -> t.told(what == UNDO ? UNDO + 1 : what));
+        addEach(when + ": setting", run, 0, 8, Teleprompter::setting);
+        addEach(when + ": heard", run, 0, 4, Teleprompter::heard);
         add(when + ": mean", run.get().mean());
         for (int number = -1; number <= 5; number++) {
             int what = number;
-            addEach(when + ": word " + what, run, -1, words, (t, word) -> t.word(word, what));
-            addEach(when + ": row " + what, run, -1, rows, (t, row) -> t.row(row, what));
-            addEach(when + ": trail " + what, run, -1, run.get().told(15), (t, k) -> t.trail(k, what));
-            addEach(when + ": best " + what, run, 'a' - 1, 'z' + 1, (t, letter) -> t.best(letter, what));
-            addEach(when + ": rehearse " + what, run, 0, 11, (t, pace) -> t.rehearse(pace, what));
+            addEach(when + ": word " + what, run, 0, words - 1, (t, word) -> t.word(word, what));
+            addEach(when + ": row " + what, run, 0, rows - 1, (t, row) -> t.row(row, what));
+            addEach(when + ": trail " + what, run, 0, run.get().told(15), (t, k) -> t.trail(k, what));
+            addEach(when + ": best " + what, run, 'a', 'z', (t, letter) -> t.best(letter, what));
+            addEach(when + ": rehearse " + what, run, 1, 10, (t, pace) -> t.rehearse(pace, what));
         }
-        addEach(when + ": score", run, -1, words, Teleprompter::score);
-        addEach(when + ": unique", run, -1, words, Teleprompter::unique);
-        addEach(when + ": reached", run, -1, words, Teleprompter::reached);
+        addEach(when + ": score", run, 0, words - 1, Teleprompter::score);
+        addEach(when + ": unique", run, 0, words - 1, Teleprompter::unique);
+        addEach(when + ": reached", run, 0, words - 1, Teleprompter::reached);
     }
 }
