@@ -466,6 +466,13 @@ public final class FollowingEdgesTest extends Checks {
         told("passed ones are cues, too", t, 3, 5);
         told("the last cue waits at the end", t, 16, 4);
         due("so", t.word(4, 3), 1);
+        t = loaded("a/".repeat(59) + "b/");
+        t.set(5, 1);
+        t.set(4, 60);
+        due("a skip over 59 cues", t.hear('b'), 60);
+        told("all of them are overrun", t, 14, 59);
+        told("and are still cues", t, 3, 60);
+        told("the last one waits", t, 16, 59);
     }
 
     // "The next cue is the waiting one with the lowest word"; promise 6: "STATE if there is none"
